@@ -1253,23 +1253,29 @@ public final class LambdaShelf {
         }
 
         private void typeNode(int cell, int place, int due) {
-            switch (cell) {
-                case APPLY:
-                    int argument = any();
-                    await(argument);
-                    await(arrow(argument, due));
-                    break;
-                case LAMBDA:
-                    int bound = any();
-                    int result = any();
-                    joinAll(due, arrow(bound, result));
-                    bind(shape.depthOf(place), bound);
-                    await(result);
-                    break;
-                default:
-                    joinAll(due, cell >= VARIABLE
-                            ? boundBy(shape.binderDepth(cell, place)) : typeOfLetter(cell));
+            if (cell == APPLY) {
+                typeApply(due);
+            } else if (cell == LAMBDA) {
+                typeLambda(shape.depthOf(place), due);
+            } else if (cell >= VARIABLE) {
+                joinAll(due, boundBy(shape.binderDepth(cell, place)));
+            } else {
+                joinAll(due, typeOfLetter(cell));
             }
+        }
+
+        private void typeApply(int due) {
+            int argument = any();
+            await(argument);
+            await(arrow(argument, due));
+        }
+
+        private void typeLambda(int depth, int due) {
+            int bound = any();
+            int result = any();
+            joinAll(due, arrow(bound, result));
+            bind(depth, bound);
+            await(result);
         }
 
         private int typeOfLetter(int cell) {
@@ -1277,16 +1283,22 @@ public final class LambdaShelf {
                 case S:
                     return typeOfS(any(), any(), any());
                 case K:
-                    int kept = any();
-                    return arrow(kept, arrow(any(), kept));
+                    return typeOfK(any(), any());
                 case I:
-                    int given = any();
-                    return arrow(given, given);
+                    return typeOfI(any());
                 case F:
-                    return arrow(shared, shared);
+                    return typeOfI(shared);
                 default:
                     return shared;
             }
+        }
+
+        private int typeOfK(int a, int b) {
+            return arrow(a, arrow(b, a));
+        }
+
+        private int typeOfI(int a) {
+            return arrow(a, a);
         }
 
         private int typeOfS(int a, int b, int c) {
@@ -1362,12 +1374,16 @@ public final class LambdaShelf {
             if (a == b) {
                 return queued;
             }
-            if (!isArrow(a)) {
+            if (isArrow(a) && isArrow(b)) {
                 links[a] = b;
-                return queued;
+                return enqueue(a, queued);
             }
-            links[isArrow(b) ? a : b] = isArrow(b) ? b : a;
-            return isArrow(b) ? enqueue(a, queued) : queued;
+            if (isArrow(a)) {
+                links[b] = a;
+            } else {
+                links[a] = b;
+            }
+            return queued;
         }
 
         private int enqueue(int node, int queued) {

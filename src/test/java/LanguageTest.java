@@ -1,0 +1,90 @@
+import java.lang.reflect.Constructor;
+import java.lang.reflect.Field;
+import java.lang.reflect.Method;
+import java.lang.reflect.Modifier;
+import java.nio.file.Files;
+import java.nio.file.Path;
+import java.util.ArrayList;
+import java.util.List;
+import java.util.TreeSet;
+import java.util.regex.Matcher;
+import java.util.regex.Pattern;
+
+/** The face, and those rules of LANGUAGE.md that a look at the file can tell. */
+public final class LanguageTest {
+    private static final Due due = new Due("LanguageTest");
+    private static final String FACE = "about(int,int) abstracted(int) apply(int,int) code(int,int) copy(int) "
+            + "count(int) drop() end(int) fault() feed(int,int,int,int,int) letter(int,int) number(int) "
+            + "read(int,int) redex(int,int) redexes(int) same(int,int) size(int) step(int,int) "
+            + "steps(int,int,int) term() told(int) type(int) typed(int)";
+
+    public static void main(String[] args) throws Exception {
+        face();
+        inside();
+        words();
+        due.finish();
+    }
+
+    private static void face() {
+        Class<?> shelf = LambdaShelf.class;
+        due.is("public final", shelf.getModifiers(), Modifier.PUBLIC | Modifier.FINAL);
+        TreeSet<String> methods = new TreeSet<>();
+        for (Method method : shelf.getDeclaredMethods()) {
+            if (!Modifier.isPrivate(method.getModifiers())) {
+                due.is(method + " is just public", method.getModifiers(), Modifier.PUBLIC);
+                due.is(method + " answers an int", method.getReturnType().getName(), "int");
+                List<String> types = new ArrayList<>();
+                for (Class<?> type : method.getParameterTypes()) {
+                    types.add(type.getName());
+                }
+                methods.add(method.getName() + "(" + String.join(",", types) + ")");
+            }
+        }
+        due.is("methods", String.join(" ", methods), FACE);
+        TreeSet<String> fields = new TreeSet<>();
+        for (Field field : shelf.getDeclaredFields()) {
+            if (!Modifier.isPrivate(field.getModifiers())) {
+                fields.add(field.getName());
+            }
+        }
+        due.is("constants", String.join(" ", fields), "BAD FULL NONE STATE");
+        Constructor<?>[] constructors = shelf.getDeclaredConstructors();
+        due.is("constructors", constructors.length, 1);
+        due.is("the constructor is public", constructors[0].getModifiers(), Modifier.PUBLIC);
+    }
+
+    private static void inside() {
+        TreeSet<String> names = new TreeSet<>();
+        for (String method : FACE.split(" ")) {
+            names.add(method.substring(0, method.indexOf('(')));
+        }
+        Class<?>[] classes = LambdaShelf.class.getDeclaredClasses();
+        due.is("at most twelve classes", classes.length < 12 ? 1 : 0, 1);
+        for (Class<?> inner : classes) {
+            due.is(inner + " is static", Modifier.isStatic(inner.getModifiers()) ? 1 : 0, 1);
+            int own = 0;
+            for (Field field : inner.getDeclaredFields()) {
+                boolean fixed = Modifier.isStatic(field.getModifiers());
+                own += fixed ? 0 : 1;
+                due.is(field + " is final if static",
+                        !fixed || Modifier.isFinal(field.getModifiers()) ? 1 : 0, 1);
+            }
+            due.is(inner + " has at most twenty fields", own <= 20 ? 1 : 0, 1);
+            for (Method method : inner.getDeclaredMethods()) {
+                due.is(method + " bears a name of its own", names.contains(method.getName()) ? 1 : 0, 0);
+                due.is(method + " takes at most seven", method.getParameterCount() <= 7 ? 1 : 0, 1);
+            }
+        }
+    }
+
+    private static void words() throws Exception {
+        String text = Files.readString(Path.of("src/main/java/LambdaShelf.java"));
+        String bare = text.replaceAll("(?s)/\\*.*?\\*/", "").replaceAll("//[^\n]*", "")
+                .replaceAll("\"[^\"]*\"", "\"\"").replaceAll("'\\\\?.'", "' '");
+        Pattern ruledOut = Pattern.compile("\\b(throws?|try|catch|finally|synchronized|assert|import|package|"
+                + "protected|native|volatile|transient|instanceof|Object|System\\.(?!arraycopy\\b)\\w+|"
+                + "\\w+Exact|hashCode|toString|static\\s*\\{)|->|::");
+        Matcher found = ruledOut.matcher(bare);
+        due.is("a word that is ruled out", found.find() ? found.group() : "", "");
+    }
+}
