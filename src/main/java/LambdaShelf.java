@@ -272,11 +272,13 @@ public final class LambdaShelf {
         if (many < 0 || many >= terms.length) {
             return null;
         }
-        if (terms[many] == null) {
-            terms[many] = new Code(MOST_NODES);
+        Code fresh = terms[many];
+        if (fresh == null) {
+            fresh = new Code(MOST_NODES);
+            terms[many] = fresh;
         }
-        terms[many].clear();
-        return terms[many];
+        fresh.clear();
+        return fresh;
     }
 
     private int keepFresh() {

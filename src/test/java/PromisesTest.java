@@ -211,6 +211,7 @@ public final class PromisesTest {
         faultOf(Due.many("20K", 200), 5, 0);
         faultOf("  " + Due.many("20 ", 12), 5, 0);
         faultOf(Due.many("S", 599) + ")", 2, 599);
+        faultOf("(" + Due.many("S", 599), 2, 600);
         LambdaShelf y = new LambdaShelf();
         Due.feed(y, Due.many("(S", 300));
         due.is("600 bytes", y.term(), -10 - 80);
@@ -331,8 +332,11 @@ public final class PromisesTest {
         due.is("same(0, 2)", x.same(0, 2), 0);
         due.is("same(2, 3)", x.same(2, 3), 0);
         due.is("same(0, 0)", x.same(0, 0), 1);
-        due.is("same(0, 4)", x.same(0, 4), BAD);
-        due.is("same(4, 0)", x.same(4, 0), BAD);
+        Due.term(x, "S");
+        Due.term(x, "K");
+        due.is("S is not K", x.same(4, 5), 0);
+        due.is("same(0, 6)", x.same(0, 6), BAD);
+        due.is("same(6, 0)", x.same(6, 0), BAD);
         due.is("same(-1, -1)", x.same(-1, -1), BAD);
     }
 
@@ -763,6 +767,17 @@ public final class PromisesTest {
         due.is("thirty pairs", x.typed(4), FULL);
         due.is("the latest stays", x.type(380) > 0 ? 1 : 0, 1);
         due.is("its end", x.type(381), BAD);
+        // Each K around makes it two longer.
+        Due.term(x, "\\x." + Due.many("K(", 29) + "x" + Due.many(")", 29));
+        Due.term(x, "\\x." + Due.many("K(", 30) + "x" + Due.many(")", 30));
+        x.apply(5, 2);
+        x.apply(6, 7);
+        x.apply(6, 2);
+        x.apply(6, 9);
+        due.is("381 + 58 + 60", x.typed(8), 499);
+        due.is("381 + 60 + 60", x.typed(10), FULL);
+        due.is("the last of 499", x.type(498) > 0 ? 1 : 0, 1);
+        due.is("behind it", x.type(499), BAD);
         LambdaShelf y = new LambdaShelf();
         Due.term(y, Due.many("S", 250));
         due.is("250 S", y.typed(0), NONE);
