@@ -670,7 +670,7 @@ public final class LambdaShelf {
 
         private void takeVariable() {
             int between = 0;
-            for (int i = open - 1; i >= 0; i--) {
+            for (int i = Math.min(open, MOST_OPEN) - 1; i >= 0; i--) {
                 if (openNames[i] != PARENTHESIS) {
                     if (isNameAt(openNames[i])) {
                         takePart(VARIABLE + between);
@@ -705,7 +705,7 @@ public final class LambdaShelf {
 
         private void closeParenthesis() {
             int opened = innermostParenthesis();
-            if (isRowEmpty() || opened < 0) {
+            if (isRowEmpty() || opened < 0 || opened >= MOST_OPEN) {
                 fail(MISPLACED);
                 return;
             }
@@ -714,7 +714,7 @@ public final class LambdaShelf {
         }
 
         private int innermostParenthesis() {
-            for (int i = open - 1; i >= 0; i--) {
+            for (int i = Math.min(open, MOST_OPEN) - 1; i >= 0; i--) {
                 if (openNames[i] == PARENTHESIS) {
                     return i;
                 }
@@ -755,7 +755,7 @@ public final class LambdaShelf {
         }
 
         private void putItems(Code out) {
-            for (int i = 0; i < itemCount && !out.over; i++) {
+            for (int i = 0; i < itemCount && i < items.length && !out.over; i++) {
                 putItemCode(items[i], out);
             }
             if (out.over) {
@@ -860,7 +860,7 @@ public final class LambdaShelf {
         }
 
         private void leaveEnded() {
-            for (int i = aroundCount - 1; i >= 0; i--) {
+            for (int i = Math.min(aroundCount, around.length) - 1; i >= 0; i--) {
                 int within = around[i] & ~WRAPPED;
                 if (within == IN_FIRST) {
                     tell(' ');
@@ -1260,7 +1260,7 @@ public final class LambdaShelf {
             } else if (cell == LAMBDA) {
                 typeLambda(shape.depthOf(place), due);
             } else if (cell >= VARIABLE) {
-                joinAll(due, boundBy(shape.binderDepth(cell, place)));
+                joinAll(due, at(binders, shape.binderDepth(cell, place)));
             } else {
                 joinAll(due, typeOfLetter(cell));
             }
@@ -1276,7 +1276,7 @@ public final class LambdaShelf {
             int bound = any();
             int result = any();
             joinAll(due, arrow(bound, result));
-            bind(depth, bound);
+            set(binders, depth, bound);
             await(result);
         }
 
@@ -1314,11 +1314,21 @@ public final class LambdaShelf {
 
         private int arrow(int from, int to) {
             int node = Math.min(nodes, ROOM - 1);
-            froms[node] = from;
-            tos[node] = to;
-            links[node] = node;
+            set(froms, node, from);
+            set(tos, node, to);
+            set(links, node, node);
             nodes = node + 1;
             return node;
+        }
+
+        private static int at(int[] cells, int place) {
+            return place >= 0 && place < cells.length ? cells[place] : 0;
+        }
+
+        private static void set(int[] cells, int place, int cell) {
+            if (place >= 0 && place < cells.length) {
+                cells[place] = cell;
+            }
         }
 
         private void await(int node) {
@@ -1336,37 +1346,27 @@ public final class LambdaShelf {
             return waiting[waitingCount];
         }
 
-        private void bind(int depth, int node) {
-            if (depth >= 0 && depth < binders.length) {
-                binders[depth] = node;
-            }
-        }
-
-        private int boundBy(int depth) {
-            return depth >= 0 && depth < binders.length ? binders[depth] : 0;
-        }
-
         private int rootOf(int node) {
-            int root = node >= 0 && node < ROOM ? node : 0;
-            for (int hops = 0; hops < ROOM && links[root] != root; hops++) {
-                links[root] = links[links[root]];
-                root = links[root];
+            int root = node;
+            for (int hops = 0; hops < ROOM && at(links, root) != root; hops++) {
+                set(links, root, at(links, at(links, root)));
+                root = at(links, root);
             }
             return root;
         }
 
         private boolean isArrow(int node) {
-            return froms[node] != ANY;
+            return at(froms, node) != ANY;
         }
 
         /** Two arrows that are joined wait in the queue, once each, for their sides to be joined. */
         private void joinAll(int one, int other) {
             int queued = join(one, other, 0);
             for (int i = 0; i < queued && i < ROOM; i++) {
-                int joined = queue[i];
+                int joined = at(queue, i);
                 int root = rootOf(joined);
-                queued = join(froms[joined], froms[root], queued);
-                queued = join(tos[joined], tos[root], queued);
+                queued = join(at(froms, joined), at(froms, root), queued);
+                queued = join(at(tos, joined), at(tos, root), queued);
             }
         }
 
@@ -1377,13 +1377,13 @@ public final class LambdaShelf {
                 return queued;
             }
             if (isArrow(a) && isArrow(b)) {
-                links[a] = b;
+                set(links, a, b);
                 return enqueue(a, queued);
             }
             if (isArrow(a)) {
-                links[b] = a;
+                set(links, b, a);
             } else {
-                links[a] = b;
+                set(links, a, b);
             }
             return queued;
         }
@@ -1392,7 +1392,7 @@ public final class LambdaShelf {
             if (queued < 0 || queued >= ROOM) {
                 return queued;
             }
-            queue[queued] = node;
+            set(queue, queued, node);
             return queued + 1;
         }
 
@@ -1404,13 +1404,14 @@ public final class LambdaShelf {
             for (int node = 0; node < nodes; node++) {
                 if (rootOf(node) == node) {
                     roots++;
-                    queued = marks[node] == 0 ? enqueue(node, queued) : queued;
+                    queued = at(marks, node) == 0 ? enqueue(node, queued) : queued;
                 }
             }
             for (int i = 0; i < queued && i < ROOM; i++) {
-                if (isArrow(queue[i])) {
-                    queued = release(rootOf(froms[queue[i]]), queued);
-                    queued = release(rootOf(tos[queue[i]]), queued);
+                int node = at(queue, i);
+                if (isArrow(node)) {
+                    queued = release(rootOf(at(froms, node)), queued);
+                    queued = release(rootOf(at(tos, node)), queued);
                 }
             }
             return queued < roots;
@@ -1420,20 +1421,24 @@ public final class LambdaShelf {
             clearMarks();
             for (int node = 0; node < nodes; node++) {
                 if (rootOf(node) == node && isArrow(node)) {
-                    marks[rootOf(froms[node])]++;
-                    marks[rootOf(tos[node])]++;
+                    countSide(rootOf(at(froms, node)));
+                    countSide(rootOf(at(tos, node)));
                 }
             }
         }
 
+        private void countSide(int node) {
+            set(marks, node, at(marks, node) + 1);
+        }
+
         private int release(int node, int queued) {
-            marks[node]--;
-            return marks[node] == 0 ? enqueue(node, queued) : queued;
+            set(marks, node, at(marks, node) - 1);
+            return at(marks, node) == 0 ? enqueue(node, queued) : queued;
         }
 
         private void clearMarks() {
             for (int node = 0; node < ROOM; node++) {
-                marks[node] = 0;
+                set(marks, node, 0);
             }
         }
 
@@ -1448,15 +1453,15 @@ public final class LambdaShelf {
                 int node = rootOf(nextWaiting());
                 if (isArrow(node)) {
                     made.put(0);
-                    await(tos[node]);
-                    await(froms[node]);
+                    await(at(tos, node));
+                    await(at(froms, node));
                     made.over = made.length + waitingCount > MOST_NODES;
                 } else {
-                    if (marks[node] == 0) {
+                    if (at(marks, node) == 0) {
                         anys++;
-                        marks[node] = anys;
+                        set(marks, node, anys);
                     }
-                    made.put(marks[node]);
+                    made.put(at(marks, node));
                 }
             }
         }

@@ -87,4 +87,9 @@ final class Due {
     static String many(String part, int n) {
         return part.repeat(n);
     }
+
+    /** A text of a TERM without a REDEX of just this SIZE, 1 to 500. */
+    static String sized(int size) {
+        return size % 2 == 1 ? many("X", (size + 1) / 2) : "\\x." + many("X", size / 2);
+    }
 }
