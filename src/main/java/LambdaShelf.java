@@ -760,7 +760,6 @@ public final class LambdaShelf {
             }
             if (out.over) {
                 fault = TOO_LONG;
-                faultPlace = 0;
             }
         }
 
@@ -1442,7 +1441,6 @@ public final class LambdaShelf {
             }
         }
 
-        /** Each that waits will be a cell at least: more than fit are too many before they come. */
         private void tellType(int whole) {
             clearMarks();
             made.clear();
@@ -1455,7 +1453,6 @@ public final class LambdaShelf {
                     made.put(0);
                     await(at(tos, node));
                     await(at(froms, node));
-                    made.over = made.length + waitingCount > MOST_NODES;
                 } else {
                     if (at(marks, node) == 0) {
                         anys++;

@@ -40,6 +40,7 @@ public final class CallsEdgesTest {
         readIsNotKept();
         typedLengths();
         typeOfTheLatest();
+        typedAgain();
         aboutLambdas();
         aboutWhat();
         dropToNone();
@@ -160,14 +161,18 @@ public final class CallsEdgesTest {
 
     /** "THE TAPE (empty then)" */
     private static void termEmptiesTheTape() {
-        String[] texts = {"K", "$", "(", "q", many("(", 41), many("X", 251), ""};
-        int[] faults = {0, 1, 2, 3, 4, 5, 2};
+        String[] texts = {"K", "$", "(", "q", many("(", 41), many("X", 251), "", "\\", "\\x", "\\x.", "(\\x.x q"};
+        int[] faults = {0, 1, 2, 3, 4, 5, 2, 2, 2, 2, 3};
         for (int i = 0; i < texts.length; i++) {
             Scene read = new Scene().term("K").term(texts[i]);
             is("fault " + i, read, x -> x.fault(), faults[i]);
             is("tape behind it " + i, read, x -> x.count(1), 0);
             is("terms behind it " + i, read, x -> x.count(0), faults[i] == 0 ? 2 : 1);
             is("feed behind it " + i, read, FEED, 20);
+            Scene next = read.term("\\x y.y x");
+            is("the next one's FAULT " + i, next, x -> x.fault(), 0);
+            due.is("the next one " + i, next.text(faults[i] == 0 ? 2 : 1), "\\a.\\b.b a");
+            is("a NAME of the one before " + i, read.tape("x"), x -> x.term(), -10);
         }
     }
 
@@ -340,7 +345,7 @@ public final class CallsEdgesTest {
     private static void sameToTheLastCell() {
         String row = many("X", 249);
         Scene some = new Scene().terms("\\x." + row + "K", "\\x." + row + "K", "\\x." + row + "S", "\\x." + row + "x",
-                many("X", 249), many("X", 250), "\\a b.a", "\\b a.b", "\\a b.b", "K");
+                many("X", 249), many("X", 250), "\\a b.a", "\\b a.b", "\\a b.b", "K", "S");
         is("alike to the last cell", some, x -> x.same(0, 1), 1);
         is("one and itself", some, x -> x.same(0, 0), 1);
         is("the last cell is another", some, x -> x.same(0, 2), 0);
@@ -349,9 +354,9 @@ public final class CallsEdgesTest {
         is("one is longer", some, x -> x.same(5, 4), 0);
         is("names are nothing", some, x -> x.same(6, 7), 1);
         is("another VARIABLE", some, x -> x.same(6, 8), 0);
-        is("another first cell", some, x -> x.same(9, 8), 0);
-        is("no second", some, x -> x.same(0, 10), BAD);
-        is("no first", some, x -> x.same(10, 0), BAD);
+        is("another first cell", some, x -> x.same(9, 10), 0);
+        is("no second", some, x -> x.same(0, 11), BAD);
+        is("no first", some, x -> x.same(11, 0), BAD);
         is("neither", some, x -> x.same(-1, -1), BAD);
     }
 
@@ -540,6 +545,18 @@ public final class CallsEdgesTest {
         // An inner one of 1 + 6 * 82 for the row of y, and 6 or 8 for what is before it.
         abstracts("499 of an inner LAMBDA", new Scene().term("\\x.(\\y.X(y" + many("X", 82) + "))x"), 0, 499);
         abstracts("501 of an inner LAMBDA", new Scene().term("\\x.(\\y.X X(y" + many("X", 82) + "))x"), 0, 501);
+        // Two inner ones that fit, around which a LAMBDA has 503 or more.
+        for (int row = 41; row <= 60; row++) {
+            String inner = "(\\y.y" + many("X", row) + ")";
+            abstracts("K of two of " + row, new Scene().term("\\x." + inner + inner), 0, 2 * (1 + 6 * row) + 3);
+            abstracts("S of two of " + row, new Scene().term("\\x." + inner + "x(" + inner + "x)"), 0,
+                    2 * (1 + 6 * row) + 3);
+            abstracts("two of " + row, new Scene().term(inner + inner), 0, 2 * (1 + 6 * row) + 1);
+        }
+        // Many that fit, far beyond 500 together.
+        abstracts("40 in a row", new Scene().term("X" + many("(\\x.x x X)", 40)), 0, 1 + 40 * 12);
+        abstracts("42 in a row", new Scene().term("X" + many("(\\x.x x X)", 42)), 0, 1 + 42 * 12);
+        abstracts("49 of two LAMBDAS", new Scene().term("X" + many("(\\x y.y x y)", 49)), 0, 49 * 14);
     }
 
     /** "A TERM ABSTRACTED, as a new one: its number. BAD; FULL" */
@@ -734,7 +751,37 @@ public final class CallsEdgesTest {
         due.is("behind FULL", typed.then(x -> x.typed(9)).type(), "0 1 0 2 1");
         due.is("behind BAD", typed.then(x -> x.typed(13), x -> x.typed(-1)).type(), "0 1 0 2 1");
         due.is("a shorter one", typed.then(x -> x.typed(11)).type(), "1");
+        due.is("again behind all these",
+                typed.then(x -> x.typed(11), x -> x.typed(12), x -> x.typed(9), x -> x.typed(10)).type(), "0 1 0 2 1");
         due.is("behind drop", typed.then(x -> x.drop(), x -> x.drop(), x -> x.drop()).type(), "0 1 0 2 1");
+    }
+
+    /** No typed() hangs on the one before, whatever that came to. */
+    private static void typedAgain() {
+        String[] texts = {"S", "X", "\\x.x x", "K", "F X", "S S", "F F", "I", many("K", 250), "\\x y z.x z (y z)"};
+        // TERM 13 is \x.x (\x.x (.. X)) of 133 such: 266 ARROWS, each the first within the one before.
+        Scene some = new Scene().terms(texts).terms("\\a." + many("\\x.x(", 19) + "a" + many(")", 19), "X");
+        for (int i = 0; i < 7; i++) {
+            int latest = 11 + i;
+            some = some.then(x -> x.apply(10, latest), x -> x.step(latest + 1, 0));
+        }
+        Scene all = some;
+        is("6 times 19", all, x -> x.typed(17), 457);
+        is("7 times 19", all, x -> x.typed(18), FULL);
+        for (int i = 0; i < texts.length; i++) {
+            int t = i;
+            Scene alone = new Scene().term(texts[t]);
+            int length = alone.answer(x -> x.typed(0));
+            String type = alone.then(x -> x.typed(0)).type();
+            for (int j = 0; j <= 18; j++) {
+                int before = j;
+                Scene behind = all.then(x -> x.typed(before));
+                is("typed " + t + " behind " + before, behind, x -> x.typed(t), length);
+                if (length > 0) {
+                    due.is("type of " + t + " behind " + before, behind.then(x -> x.typed(t)).type(), type);
+                }
+            }
+        }
     }
 
     // ---- Promise 22

@@ -103,6 +103,14 @@ final class Model {
         return i >= 0 && i < code.size() ? code.get(i) : BAD;
     }
 
+    String code(int t) {
+        StringBuilder code = new StringBuilder();
+        for (int cell : codeOf(terms.get(t))) {
+            code.append(code.length() == 0 ? "" : " ").append(cell);
+        }
+        return code.toString();
+    }
+
     int letter(int t, int i) {
         if (!has(t)) {
             return BAD;

@@ -1,15 +1,19 @@
+import java.util.ArrayList;
+import java.util.List;
 import java.util.Random;
 
 /** Runs of calls drawn by a fixed seed, each answer compared with the model's. */
 public final class ModelTest {
     private static final Due due = new Due("ModelTest");
-    private static final int CALLS = 512;
+    // What is left of 512 calls is for the look at the end.
+    private static final int CALLS = 412;
+    private static final int MOST_AT_ONCE = 33;
 
     private final Random draw;
     private final LambdaShelf shelf = new LambdaShelf();
     private final Model model = new Model();
     private final StringBuilder log = new StringBuilder();
-    private int calls;
+    private final List<Scene.Call> calls = new ArrayList<>();
     private boolean wrong;
 
     private ModelTest(long seed) {
@@ -31,21 +35,23 @@ public final class ModelTest {
     }
 
     private void go() {
-        while (calls < CALLS && !wrong) {
+        while (calls.size() + MOST_AT_ONCE <= CALLS && !wrong) {
             one();
         }
-        for (int t = 0; t < 33 && !wrong; t++) {
-            same("size " + t, shelf.size(t), model.size(t));
-            for (int i = -1; i <= Math.max(0, shelf.size(t)); i++) {
-                same("code " + t + " " + i, shelf.code(t, i), model.code(t, i));
-            }
+        Scene all = new Scene().then(calls.toArray(new Scene.Call[0]));
+        for (int t = 0; t < model.count(0) && !wrong; t++) {
+            String want = model.code(t);
+            String got = all.code(t);
+            due.is("code of " + t + " at the end", got, want);
+            wrong |= !got.equals(want);
         }
     }
 
-    private void same(String call, int got, int want) {
-        calls++;
-        log.append("\n  ").append(call).append(" = ").append(got);
-        due.is(call, got, want);
+    private void same(String name, Scene.Call call, int want) {
+        int got = call.on(shelf);
+        calls.add(call);
+        log.append("\n  ").append(name).append(" = ").append(got);
+        due.is(name, got, want);
         wrong |= got != want;
     }
 
@@ -57,11 +63,11 @@ public final class ModelTest {
             int d = Due.four(text, at + 12);
             int e = Due.four(text, at + 16);
             same("feed " + text.substring(at, Math.min(text.length(), at + 20)),
-                    shelf.feed(a, b, c, d, e), model.feed(a, b, c, d, e));
+                    x -> x.feed(a, b, c, d, e), model.feed(a, b, c, d, e));
         }
         if (trim) {
             int n = model.count(1) - (20 - text.length() % 20) % 20;
-            same("end " + n, shelf.end(n), model.end(n));
+            same("end " + n, x -> x.end(n), model.end(n));
         }
     }
 
@@ -75,47 +81,47 @@ public final class ModelTest {
         int kind = draw.nextInt(60);
         if (kind < 12) {
             feedText(someText(), draw.nextBoolean());
-            same("term", shelf.term(), model.term());
-            same("fault", shelf.fault(), model.fault());
+            same("term", x -> x.term(), model.term());
+            same("fault", x -> x.fault(), model.fault());
         } else if (kind < 14) {
-            same("apply " + t + " " + u, shelf.apply(t, u), model.apply(t, u));
+            same("apply " + t + " " + u, x -> x.apply(t, u), model.apply(t, u));
         } else if (kind < 15) {
-            same("copy " + t, shelf.copy(t), model.copy(t));
+            same("copy " + t, x -> x.copy(t), model.copy(t));
         } else if (kind < 17) {
-            same("same " + t + " " + u, shelf.same(t, u), model.same(t, u));
+            same("same " + t + " " + u, x -> x.same(t, u), model.same(t, u));
         } else if (kind < 21) {
-            same("step " + t + " " + way, shelf.step(t, way), model.step(t, way));
+            same("step " + t + " " + way, x -> x.step(t, way), model.step(t, way));
         } else if (kind < 24) {
-            same("steps " + t + " " + way + " " + n, shelf.steps(t, way, n), model.steps(t, way, n));
+            same("steps " + t + " " + way + " " + n, x -> x.steps(t, way, n), model.steps(t, way, n));
         } else if (kind < 27) {
-            same("told " + what, shelf.told(what), model.told(what));
+            same("told " + what, x -> x.told(what), model.told(what));
         } else if (kind < 30) {
-            same("redex " + t + " " + way, shelf.redex(t, way), model.redex(t, way));
+            same("redex " + t + " " + way, x -> x.redex(t, way), model.redex(t, way));
         } else if (kind < 32) {
-            same("redexes " + t, shelf.redexes(t), model.redexes(t));
+            same("redexes " + t, x -> x.redexes(t), model.redexes(t));
         } else if (kind < 34) {
-            same("abstracted " + t, shelf.abstracted(t), model.abstracted(t));
+            same("abstracted " + t, x -> x.abstracted(t), model.abstracted(t));
         } else if (kind < 36) {
-            same("number " + t, shelf.number(t), model.number(t));
+            same("number " + t, x -> x.number(t), model.number(t));
         } else if (kind < 38) {
-            same("read " + t + " " + n, shelf.read(t, n), model.read(t, n));
+            same("read " + t + " " + n, x -> x.read(t, n), model.read(t, n));
         } else if (kind < 41) {
-            same("typed " + t, shelf.typed(t), model.typed(t));
-            same("type " + i, shelf.type(i), model.type(i));
+            same("typed " + t, x -> x.typed(t), model.typed(t));
+            same("type " + i, x -> x.type(i), model.type(i));
         } else if (kind < 43) {
-            same("type " + i, shelf.type(i), model.type(i));
+            same("type " + i, x -> x.type(i), model.type(i));
         } else if (kind < 45) {
-            same("about " + t + " " + what, shelf.about(t, what), model.about(t, what));
+            same("about " + t + " " + what, x -> x.about(t, what), model.about(t, what));
         } else if (kind < 49) {
-            same("drop", shelf.drop(), model.drop());
+            same("drop", x -> x.drop(), model.drop());
         } else if (kind < 51) {
-            same("count " + what, shelf.count(what), model.count(what));
+            same("count " + what, x -> x.count(what), model.count(what));
         } else if (kind < 54) {
-            same("letter " + t + " " + i, shelf.letter(t, i), model.letter(t, i));
+            same("letter " + t + " " + i, x -> x.letter(t, i), model.letter(t, i));
         } else if (kind < 56) {
-            same("code " + t + " " + i, shelf.code(t, i), model.code(t, i));
+            same("code " + t + " " + i, x -> x.code(t, i), model.code(t, i));
         } else if (kind < 58) {
-            same("end " + i, shelf.end(i), model.end(i));
+            same("end " + i, x -> x.end(i), model.end(i));
         } else {
             feedText(someText(), false);
         }

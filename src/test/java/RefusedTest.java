@@ -182,7 +182,8 @@ public final class RefusedTest {
         asked("read", x -> x.read(0, 200));
         asked("type", x -> x.type(0));
         asked("count", x -> x.count(2));
-        asked("end at the length", x -> x.end(x.count(1)));
+        int bytes = scene.answer(x -> x.count(1));
+        asked("end at the length", x -> x.end(bytes));
         for (int w = 0; w <= 2; w++) {
             int way = w;
             asked("redex by way " + way, x -> x.redex(1, way));

@@ -663,6 +663,8 @@ public final class TermsEdgesTest {
         steps("\\z x.z (\\y.y z) x", 3, 1, "\\a.a (\\b.b a)");
         steps("\\x.(\\y.F y) x", 3, 0, "\\a.F a");
         steps("X (\\x.F x) (\\x.K x)", 3, 3, "X F (\\a.K a)");
+        steps("X (\\y.y) (\\x.F x)", 3, 5, "X (\\a.a) F");
+        steps("\\z.z (\\x.F x) z", 3, 4, "\\a.a F a");
         steps("I X", 3, NONE, "I X");
         Scene normal = new Scene().term("\\x.F x");
         due.is("no REDEX of ways 0 to 2", normal.answer(x -> x.redexes(0)), 0);
