@@ -157,6 +157,7 @@ public final class CallsEdgesTest {
         is("a FAULT at 599", new Scene().tape(many("K", 599) + "$"), x -> x.term(), -609);
         is("a FAULT at 600", new Scene().tape("(" + many("K", 599)), x -> x.term(), -610);
         is("no number goes to a FAULT", new Scene().term("K").term("$").tape("K"), x -> x.term(), 1);
+        is("a SIZE behind another FAULT", new Scene().term("K$").tape(many("X", 251)), x -> x.term(), -10);
     }
 
     /** "THE TAPE (empty then)" */
@@ -556,7 +557,7 @@ public final class CallsEdgesTest {
         // Many that fit, far beyond 500 together.
         abstracts("40 in a row", new Scene().term("X" + many("(\\x.x x X)", 40)), 0, 1 + 40 * 12);
         abstracts("42 in a row", new Scene().term("X" + many("(\\x.x x X)", 42)), 0, 1 + 42 * 12);
-        abstracts("49 of two LAMBDAS", new Scene().term("X" + many("(\\x y.y x y)", 49)), 0, 49 * 14);
+        abstracts("49 of two LAMBDAS", new Scene().term("X" + many("(\\x y.y x y)", 49)), 0, 1 + 49 * 22);
     }
 
     /** "A TERM ABSTRACTED, as a new one: its number. BAD; FULL" */
