@@ -197,13 +197,15 @@ public final class LambdaShelf {
         if (found == null || !isFuel(n)) {
             return BAD;
         }
-        trial.clear();
-        trial.put(APPLY);
-        trial.put(APPLY);
-        trial.putAll(found);
-        trial.put(F);
-        trial.put(X);
-        return trial.over ? FULL : numberByTurning(n);
+        putTrial(found);
+        int answer = trial.over ? FULL : 1;
+        for (int done = 0; done < n && answer == 1; done++) {
+            answer = turner.turn(trial, FROM_OUTSIDE);
+        }
+        if (answer == FULL) {
+            return FULL;
+        }
+        return turner.place(trial, FROM_OUTSIDE) == NONE ? numberOf(trial) : STATE;
     }
 
     public int typed(int t) {
@@ -295,17 +297,13 @@ public final class LambdaShelf {
         return nodes;
     }
 
-    private int numberByTurning(int n) {
-        for (int done = 0; done < n; done++) {
-            int answer = turner.turn(trial, FROM_OUTSIDE);
-            if (answer == FULL) {
-                return FULL;
-            }
-            if (answer == 0) {
-                return numberOf(trial);
-            }
-        }
-        return turner.place(trial, FROM_OUTSIDE) == NONE ? numberOf(trial) : STATE;
+    private void putTrial(Code t) {
+        trial.clear();
+        trial.put(APPLY);
+        trial.put(APPLY);
+        trial.putAll(t);
+        trial.put(F);
+        trial.put(X);
     }
 
     private static boolean isWay(int way) {
@@ -670,8 +668,8 @@ public final class LambdaShelf {
 
         private void takeVariable() {
             int between = 0;
-            for (int i = Math.min(open, MOST_OPEN) - 1; i >= 0; i--) {
-                if (openNames[i] != PARENTHESIS) {
+            for (int i = open - 1; i >= 0; i--) {
+                if (i < openNames.length && openNames[i] != PARENTHESIS) {
                     if (isNameAt(openNames[i])) {
                         takePart(VARIABLE + between);
                         return;
@@ -705,7 +703,7 @@ public final class LambdaShelf {
 
         private void closeParenthesis() {
             int opened = innermostParenthesis();
-            if (isRowEmpty() || opened < 0 || opened >= MOST_OPEN) {
+            if (isRowEmpty() || opened < 0 || opened >= rowsAround.length) {
                 fail(MISPLACED);
                 return;
             }
@@ -714,8 +712,8 @@ public final class LambdaShelf {
         }
 
         private int innermostParenthesis() {
-            for (int i = Math.min(open, MOST_OPEN) - 1; i >= 0; i--) {
-                if (openNames[i] == PARENTHESIS) {
+            for (int i = open - 1; i >= 0; i--) {
+                if (i < openNames.length && openNames[i] == PARENTHESIS) {
                     return i;
                 }
             }
@@ -1257,7 +1255,7 @@ public final class LambdaShelf {
             if (cell == APPLY) {
                 typeApply(due);
             } else if (cell == LAMBDA) {
-                typeLambda(shape.depthOf(place), due);
+                joinAll(due, typeOfLambda(shape.depthOf(place)));
             } else if (cell >= VARIABLE) {
                 joinAll(due, at(binders, shape.binderDepth(cell, place)));
             } else {
@@ -1271,12 +1269,12 @@ public final class LambdaShelf {
             await(arrow(argument, due));
         }
 
-        private void typeLambda(int depth, int due) {
+        private int typeOfLambda(int depth) {
             int bound = any();
             int result = any();
-            joinAll(due, arrow(bound, result));
             set(binders, depth, bound);
             await(result);
+            return arrow(bound, result);
         }
 
         private int typeOfLetter(int cell) {

@@ -22,10 +22,11 @@ public final class LanguageTest {
         face();
         inside();
         words();
+        lengths();
         due.finish();
     }
 
-    private static void face() {
+    private static void face() throws Exception {
         Class<?> shelf = LambdaShelf.class;
         due.is("public final", shelf.getModifiers(), Modifier.PUBLIC | Modifier.FINAL);
         TreeSet<String> methods = new TreeSet<>();
@@ -48,9 +49,23 @@ public final class LanguageTest {
             }
         }
         due.is("constants", String.join(" ", fields), "BAD FULL NONE STATE");
+        constant("BAD", -1);
+        constant("STATE", -2);
+        constant("FULL", -3);
+        constant("NONE", -4);
+        due.is("it stands below Object", shelf.getSuperclass().getName(), "java.lang.Object");
+        due.is("interfaces", shelf.getInterfaces().length, 0);
         Constructor<?>[] constructors = shelf.getDeclaredConstructors();
         due.is("constructors", constructors.length, 1);
         due.is("the constructor is public", constructors[0].getModifiers(), Modifier.PUBLIC);
+    }
+
+    private static void constant(String name, int want) throws Exception {
+        Field field = LambdaShelf.class.getDeclaredField(name);
+        due.is(name, field.getInt(null), want);
+        due.is(name + " is an int", field.getType().getName(), "int");
+        due.is(name + " is public, static, final", field.getModifiers(),
+                Modifier.PUBLIC | Modifier.STATIC | Modifier.FINAL);
     }
 
     private static void inside() {
@@ -86,5 +101,21 @@ public final class LanguageTest {
                 + "\\w+Exact|hashCode|toString|static\\s*\\{)|->|::");
         Matcher found = ruledOut.matcher(bare);
         due.is("a word that is ruled out", found.find() ? found.group() : "", "");
+    }
+
+    /** By the indents of the file: a body begins with a brace at a line's end and ends with one like it. */
+    private static void lengths() throws Exception {
+        List<String> lines = Files.readAllLines(Path.of("src/main/java/LambdaShelf.java"));
+        for (int i = 0; i < lines.size(); i++) {
+            String line = lines.get(i);
+            String indent = line.substring(0, line.length() - line.stripLeading().length());
+            if (line.matches(" +[\\w\\[\\] ]*\\w+\\([\\w\\[\\], ]*\\) \\{")) {
+                int end = i + 1;
+                while (end < lines.size() && !lines.get(end).equals(indent + "}")) {
+                    end++;
+                }
+                due.is(line.strip() + " has at most sixty lines", end - i <= 60 ? 1 : 0, 1);
+            }
+        }
     }
 }
