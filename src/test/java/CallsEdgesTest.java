@@ -668,6 +668,12 @@ public final class CallsEdgesTest {
         is("the 70th", none, x -> x.read(4, 70), FULL);
         is("K (\\x.X) F X: X", none, x -> x.read(5, 2), 0);
         is("K X F X: X X", none, x -> x.read(6, 1), NONE);
+        // What it comes to is a number in either form of promise 18.
+        Scene forms = new Scene().terms("K (K 7)", "K (K (\\f.f))", "K (K 0)", "K (K (\\f.F))");
+        is("K (K 7) F X: 7", forms, x -> x.read(0, 2), 7);
+        is("K (K (\\f.f)) F X: \\f.f", forms, x -> x.read(1, 2), 1);
+        is("K (K 0) F X: 0", forms, x -> x.read(2, 2), 0);
+        is("K (K (\\f.F)) F X: \\f.F", forms, x -> x.read(3, 2), NONE);
         for (int n = 0; n <= 20; n++) {
             int want = n;
             Scene term = new Scene().term("" + n);
